@@ -76,7 +76,7 @@ public final class RunCuts {
         }
         int was = run.starts[p];
         run.starts[p] = v;
-        noteChange();
+        noteValues();
         return was + VALUE_OFFSET;
     }
 
@@ -509,6 +509,11 @@ public final class RunCuts {
 
     private void noteChange() {
         lattice.stale = true;
+        noteValues();
+    }
+
+    /** Values changed, which the lattice does not know of. */
+    private void noteValues() {
         for (int c = 0; c < CONDITIONS; c++) {
             surveys[c].stale = true;
         }
@@ -998,6 +1003,8 @@ public final class RunCuts {
         private final Lattice lattice;
         private final Run run;
         boolean stale = true;
+        private boolean passableKnown = false;
+        private boolean sliceKnown = false;
         private int met = 0;
         private int sliced = 0;
         private final int[] flags = new int[MOST_CUTS];
@@ -1017,10 +1024,24 @@ public final class RunCuts {
                 return;
             }
             stale = false;
+            passableKnown = false;
+            sliceKnown = false;
             flagMet();
-            flagPassable();
-            gatherLeastRows();
-            flagSliced();
+        }
+
+        private void needPassable() {
+            if (!passableKnown) {
+                passableKnown = true;
+                flagPassable();
+            }
+        }
+
+        private void needSlice() {
+            if (!sliceKnown) {
+                sliceKnown = true;
+                gatherLeastRows();
+                flagSliced();
+            }
         }
 
         private void flagMet() {
@@ -1114,6 +1135,7 @@ public final class RunCuts {
         }
 
         int pickSliced(int k) {
+            needSlice();
             return k == -1 ? sliced : flaggedAt(SLICED, k);
         }
 
@@ -1131,10 +1153,12 @@ public final class RunCuts {
         }
 
         boolean isExact() {
+            needSlice();
             return met == sliced;
         }
 
         boolean hasWayRound() {
+            needPassable();
             return (flags[0] & PASSABLE) != 0;
         }
 
@@ -1156,6 +1180,7 @@ public final class RunCuts {
         }
 
         int leastWith(int p, int k) {
+            needSlice();
             int row = leastRows[p * COUNTS + k];
             return row == NO_ROW ? NOT : lattice.numberOf(row);
         }
