@@ -274,7 +274,8 @@ public final class RunCuts {
         if (!isCondition(c)) {
             return NONE;
         }
-        boolean whole = conditionReader.readsWhole();
+        conditionReader.begin();
+        boolean whole = conditionReader.readCondition(0) && tape.isAtEnd();
         int place = tape.place;
         tape.clear();
         if (!whole) {
@@ -620,7 +621,7 @@ public final class RunCuts {
 
         /** The row among all rows of numbers 0 .. 5. */
         static int slot(int row) {
-            return ((at(row, 3) * 6 + at(row, 2)) * 6 + at(row, 1)) * 6 + at(row, 0);
+            return (((row >> 12 & 7) * 6 + (row >> 8 & 7)) * 6 + (row >> 4 & 7)) * 6 + (row & 7);
         }
     }
 
@@ -890,7 +891,6 @@ public final class RunCuts {
 
         private void countWays() {
             Arrays.fill(waysTo, 0L);
-            Arrays.fill(waysFrom, 0L);
             waysTo[0] = 1;
             for (int i = 0; i < size; i++) {
                 for (int p = 0; p < run.processes; p++) {
@@ -1246,7 +1246,7 @@ public final class RunCuts {
 
         /** Goes on by a figure below the bound; NONE, without going on, where there is none. */
         int figureBelow(int bound) {
-            int figure = peek() - '0';
+            int figure = place < length ? bytes[place] - '0' : NONE;
             if (figure < 0 || figure > 9 || figure >= bound) {
                 return NONE;
             }
@@ -1256,12 +1256,16 @@ public final class RunCuts {
 
         /** Goes on by one or two figures; NONE, if there is none. */
         int number() {
-            int first = figureBelow(10);
-            if (first < 0) {
-                return NONE;
+            int number = NONE;
+            for (int figures = 0; figures < 2 && place < length; figures++) {
+                int figure = bytes[place] - '0';
+                if (figure < 0 || figure > 9) {
+                    return number;
+                }
+                number = figures == 0 ? figure : number * 10 + figure;
+                place++;
             }
-            int second = figureBelow(10);
-            return second < 0 ? first : first * 10 + second;
+            return number;
         }
     }
 
@@ -1280,10 +1284,9 @@ public final class RunCuts {
             this.run = run;
         }
 
-        boolean readsWhole() {
+        void begin() {
             tape.place = 0;
             size = 0;
-            return readCondition(0) && tape.isAtEnd();
         }
 
         void handTo(Condition condition) {

@@ -46,11 +46,11 @@ public final class ModelTest {
         if (random.nextInt(4) > 0) {
             call("processes", 1 + random.nextInt(4));
         }
-        int calls = 0;
+        int calls = prepare();
         while (calls < CALLS_A_RUN && due.wrong() == 0) {
             String[] words = CALLS[random.nextInt(CALLS.length)].split(" ");
             calls++;
-            if (words[0].equals("processes") && random.nextInt(6) > 0) {
+            if (clearsMuch(words[0]) && random.nextInt(10) > 0) {
                 continue;
             }
             if (words[0].equals("TEXT")) {
@@ -66,6 +66,30 @@ public final class ModelTest {
         if (due.wrong() > 0) {
             System.out.println("  behind " + told);
         }
+    }
+
+    /** Most runs begin with some events and conditions, so that there is something to ask for. */
+    private int prepare() {
+        int events = random.nextInt(25);
+        for (int i = 0; i < events; i++) {
+            String sort = CALLS[2 + random.nextInt(7)].split(" ")[0];
+            int p = random.nextInt(model.count(0));
+            if (sort.equals("take")) {
+                call("take", p, random.nextInt(1 + model.count(2)), from(-3, 3));
+            } else {
+                call(sort, p, from(-3, 3));
+            }
+        }
+        int calls = events;
+        for (int c = 0; c < 3; c++) {
+            calls += feedText(condition(0));
+            call("read", c);
+        }
+        return calls;
+    }
+
+    private static boolean clearsMuch(String name) {
+        return name.equals("processes") || name.equals("undo") || name.equals("forget") || name.equals("back");
     }
 
     /** The model's way to a slice is too slow for most of the greatest lattices. */
@@ -112,16 +136,28 @@ public final class ModelTest {
             case 'w': return from(-1, 4);
             case 'i': return from(-1, Math.min(1296, model.cuts()));
             case 'o': return random.nextBoolean() ? from(-2, 4) : from(-1, 40);
-            case 'd': return random.nextBoolean() ? model.cut(random.nextInt(model.cuts())) : from(-1, (int) Math.pow(10, n));
+            case 'd': return digits(n);
             case 'c': return random.nextInt(20) == 0 ? from(-1, 3) : from(0, 2);
             case 's': return random.nextInt(10) == 0 ? from(-1, 2) : from(0, 1);
             case 'b': return from(31, 127);
             case 'l': return random.nextInt(20) == 0 ? from(-1, 3) : from(0, 2);
-            case 'z': return from(-2, 21);
-            case 'a': return from(-1, 20);
+            case 'z': return random.nextInt(6) == 0 ? from(-2, 21) : from(0, 5);
+            case 'a': return random.nextInt(6) == 0 ? from(-1, 20) : from(0, 4);
             case 'u': return from(-1, 7);
             default: throw new IllegalArgumentException("no kind " + kind);
         }
+    }
+
+    private int digits(int n) {
+        if (random.nextInt(4) == 0) {
+            return from(-1, (int) Math.pow(10, n));
+        }
+        int all = model.cut(model.cuts() - 1);
+        int digits = 0;
+        for (int ten = 1; ten < 10000; ten *= 10) {
+            digits += ten * random.nextInt(all / ten % 10 + 1);
+        }
+        return digits;
     }
 
     // ---- texts, mostly right ones
@@ -187,7 +223,7 @@ public final class ModelTest {
         StringBuilder spoilt = new StringBuilder(text);
         int place = random.nextInt(text.length());
         char letter = letters.charAt(random.nextInt(letters.length()));
-        switch (random.nextInt(8)) {
+        switch (random.nextInt(14)) {
             case 0: spoilt.setCharAt(place, letter); break;
             case 1: spoilt.insert(place, letter); break;
             case 2: spoilt.setLength(place); break;

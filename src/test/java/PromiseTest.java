@@ -32,6 +32,7 @@ public final class PromiseTest {
 
     private void cuts() {
         promise12And13();
+        changesAreSeen();
         promise14();
         promise15();
         promise16();
@@ -74,6 +75,7 @@ public final class PromiseTest {
         promise39();
         promise40();
         promise41And42();
+        imageHoldsAll();
         promise43();
     }
 
@@ -236,6 +238,7 @@ public final class PromiseTest {
         x.step(0, 1);
         due.is("FULL", x.take(0, 2, 1), -4);
         due.is("STATE ahead of FULL", x.take(0, 1, 1), -3);
+        due.is("taken by process 0 is taken, too", x.take(1, 0, 1), -3);
         due.is("not taken by FULL", x.message(2, 2), -5);
         due.is("the other takes it", x.take(1, 2, 1), 2);
     }
@@ -363,6 +366,47 @@ public final class PromiseTest {
         due.is("behind back()", x.cuts(), 5);
     }
 
+    /** What was asked ahead of a change must not be answered behind it. */
+    private void changesAreSeen() {
+        due.under("changes are seen");
+        RunCuts x = new RunCuts();
+        Texts.read(x, 0, "m=0");
+        Texts.read(x, 1, "c0=1");
+        expectCounts(x, 1, 1, 1, 0);
+        x.image();
+        x.send(0, 1);
+        expectCounts(x, 2, 1, 1, 1);
+        x.step(1, 1);
+        expectCounts(x, 4, 2, 2, 2);
+        x.take(1, 0, 1);
+        expectCounts(x, 5, 2, 3, 3);
+        x.back();
+        expectCounts(x, 4, 2, 2, 2);
+        Texts.tell(x, "s 0 1");
+        expectCounts(x, 6, 3, 2, 2);
+        x.undo();
+        expectCounts(x, 1, 1, 1, 0);
+        Texts.tell(x, "s 1 1;s 1 1;s 0 1");
+        expectCounts(x, 6, 3, 6, 3);
+        due.is("slice of condition 1", x.slice(1, -1), 3);
+        due.is("condition 1 is not sure not to be", x.sure(1), 1);
+        Texts.read(x, 1, "c0=1&c1=1");
+        due.is("slice of another one", x.slice(1, -1), 1);
+        due.is("which is not sure", x.sure(1), 0);
+        x.processes(2);
+        due.is("cuts without events", x.cuts(), 1);
+        due.is("ways without events", x.ways(-1), 1);
+    }
+
+    private void expectCounts(RunCuts x, int cuts, int ways, int met0, int met1) {
+        String behind = " with " + x.count(1) + " events";
+        due.is("cuts" + behind, x.cuts(), cuts);
+        due.is("ways" + behind, x.ways(-1), ways);
+        due.is("ways by the last cut" + behind, x.ways(cuts - 1), ways);
+        due.is("m=0" + behind, x.possible(0, -1), met0);
+        due.is("c0=1" + behind, x.possible(1, -1), met1);
+    }
+
     private void promise14() {
         due.under("promise 14");
         RunCuts x = chain();
@@ -413,6 +457,9 @@ public final class PromiseTest {
         due.is("k far above", x.next(1, MOST), -1);
         due.is("no cut", x.next(9, -1), -1);
         due.is("cut below", x.next(-1, -1), -1);
+        due.is("of four processes", fullest().next(0, -1), 4);
+        due.is("by the last of four", fullest().next(0, 3), 1);
+        due.is("no fifth", fullest().next(0, 4), -1);
     }
 
     private void promise17And18() {
@@ -541,11 +588,11 @@ public final class PromiseTest {
         String[] met = {
             "x0=7", "x1=0-9", "x0+x1=0-2", "x0>6", "x0<8", "m=0", "c0=0", "10-3=x0", "99=99", "00=0", "5-3-1=1", "5-3+1=3",
             "!1=2", "!!1=1", "!1=2&1=1", "!(1=2&1=1)", "1=1|1=2&1=2", "1=2&1=2|1=1", "(1=1|1=1)&1=1", "!1=1|1=1", "((((1=1))))", "!(!(!1=2))",
-            "!!!!!1=2", "(((((1=1)))))", "x1<x0", "0-x0<x1+3", "1=2|1=2|1=1", "07=x0"
+            "!!!!!1=2", "(((((1=1)))))", "x1<x0", "0-x0<x1+3", "1=2|1=2|1=1", "07=x0", "1=2|2=3|3=4|4=5|5=5", "1=1&2=2&3=3&4=4&5=5"
         };
         String[] unmet = {
             "x0=8", "x0>7", "x0<7", "m=1", "c0=1", "5-3-1=3", "!1=1", "!1=2&1=2", "1=1&1=2", "(1=1|1=1)&1=2", "!1=1&1=1", "1=2|1=2",
-            "!(1=1|1=2)", "x1>x0", "!!!!!1=1", "1=1&1=1&1=2"
+            "!(1=1|1=2)", "x1>x0", "!!!!!1=1", "1=1&1=1&1=2", "1=2|2=3|3=4|4=5|5=6", "1=1&2=2&3=3&4=4&5=6"
         };
         for (String text : met) {
             due.is(text, metAtStart(text), 1);
@@ -724,6 +771,13 @@ public final class PromiseTest {
         due.is("m=1: of event 2 of 1", x.least(0, 1, 2), 3);
         due.is("m=1: of event 1 of 1", x.least(0, 1, 1), 3);
         due.is("m=1: of event 1 of 2", x.least(0, 2, 1), -5);
+        RunCuts g = grid(5, 5);
+        Texts.read(g, 0, "c0=5&c1=2|c0=4&c1=3");
+        due.is("of event 3 of five", g.least(0, 0, 3), g.which(42));
+        due.is("of event 4 of five", g.least(0, 0, 4), g.which(42));
+        due.is("of event 5 of five", g.least(0, 0, 5), g.which(52));
+        due.is("of event 3 of the other", g.least(0, 1, 3), g.which(43));
+        due.is("of event 4 of the other", g.least(0, 1, 4), -5);
     }
 
     private void promise30() {
@@ -1027,6 +1081,99 @@ public final class PromiseTest {
         due.is("back to it", x.undo(), 4);
     }
 
+    /** Behind the image all that it holds is told otherwise, as far as there is room. */
+    private void imageHoldsAll() {
+        due.under("promise 42, all of it");
+        RunCuts x = new RunCuts();
+        x.processes(4);
+        for (int m = 0; m < 8; m++) {
+            x.send(m % 4, m);
+        }
+        for (int m = 0; m < 8; m++) {
+            x.take((m + 1) % 4, m, 10 + m);
+        }
+        for (int p = 3; p >= 0; p--) {
+            x.step(p, 20 + p);
+            x.start(p, 30 + p);
+            x.mark(p, p + 1, 1);
+        }
+        String[] conditions = {"m>3&x0=10", "c0+c1=c2", "x3=23"};
+        for (int c = 0; c < 3; c++) {
+            Texts.read(x, c, conditions[c]);
+        }
+        long[] before = all(x);
+        x.image();
+        tellOtherwise(x);
+        x.undo();
+        expectAll(x, before);
+        x.processes(1);
+        x.undo();
+        expectAll(x, before);
+        for (int left = 19; left >= 0; left--) {
+            due.is("back to " + left, x.back(), left);
+        }
+        due.is("messages", x.count(2), 0);
+    }
+
+    private static void tellOtherwise(RunCuts x) {
+        x.processes(4);
+        for (int i = 0; i < 20; i++) {
+            x.step(i / 5, -50 - i);
+            x.start(i / 5, -i);
+            x.mark(i / 5, i % 5 + 1, 1);
+        }
+        for (int i = 0; i < 20; i++) {
+            x.back();
+        }
+        for (int m = 0; m < 8; m++) {
+            x.send(3 - m / 4, -m);
+        }
+        for (int m = 0; m < 8; m++) {
+            x.take(m / 4, 7 - m, -10 - m);
+        }
+        for (int c = 0; c < 3; c++) {
+            Texts.read(x, c, "1=1&1=1|1=1&1=1");
+        }
+    }
+
+    private void expectAll(RunCuts x, long[] before) {
+        long[] behind = all(x);
+        for (int i = 0; i < before.length; i++) {
+            due.is("answer " + i, behind[i], before[i]);
+        }
+    }
+
+    /** Answers that tell all of the run and its conditions. */
+    private static long[] all(RunCuts x) {
+        long[] answers = new long[4 * 5 * 8 + 8 * 4 + 4 + 3 * 5 + 3];
+        int i = 0;
+        for (int p = 0; p < 4; p++) {
+            answers[i++] = x.value(0, p);
+            for (int k = 1; k <= 5; k++) {
+                for (int what = 0; what < 4; what++) {
+                    answers[i++] = x.eventOf(p, k, what);
+                    answers[i++] = x.clock(p, k, what);
+                }
+            }
+        }
+        for (int m = 0; m < 8; m++) {
+            for (int what = 0; what < 4; what++) {
+                answers[i++] = x.message(m, what);
+            }
+        }
+        for (int c = 0; c < 3; c++) {
+            answers[i++] = x.possible(c, -1);
+            answers[i++] = x.sure(c);
+            answers[i++] = x.slice(c, -1);
+            answers[i++] = x.regular(c);
+            answers[i++] = x.possible(c, 3);
+        }
+        answers[i++] = x.cuts();
+        answers[i++] = x.ways(-1);
+        answers[i++] = x.line();
+        return answers;
+    }
+
     private void promise43() {
         due.under("promise 43");
         RunCuts x = chain();
@@ -1041,6 +1188,12 @@ public final class PromiseTest {
         for (int what = 0; what < counts.length; what++) {
             due.is("count " + what, x.count(what), counts[what]);
         }
+        RunCuts full = fullest();
+        for (int i = 0; i < 20; i++) {
+            full.mark(i % 4, i / 4 + 1, 1);
+        }
+        due.is("the most marks", full.count(3), 20);
+        due.is("the most events", full.count(1), 20);
         due.is("count 7", x.count(7), -1);
         due.is("count -1", x.count(-1), -1);
     }
