@@ -1,7 +1,10 @@
 import java.lang.reflect.InvocationTargetException;
 import java.lang.reflect.Method;
+import java.lang.reflect.Modifier;
 import java.util.ArrayDeque;
 import java.util.Deque;
+import java.util.HashMap;
+import java.util.Map;
 import java.util.Random;
 
 /** Runs of chosen calls, each answered by the class and by the model; the seeds are fixed. */
@@ -17,6 +20,8 @@ public final class ModelTest {
     };
     private static final int RUNS = 2500;
     private static final int CALLS_A_RUN = 400;
+    private static final Map<String, Method> OF_CLASS = callsOf(RunCuts.class);
+    private static final Map<String, Method> OF_MODEL = callsOf(Model.class);
 
     private final Due due = new Due();
     private final Random random;
@@ -246,20 +251,24 @@ public final class ModelTest {
         }
         text.append(')');
         told.add(text.toString());
-        due.is(text.toString(), answer(cuts, name, numbers), answer(model, name, numbers));
+        due.is(text.toString(), answer(cuts, OF_CLASS, name, numbers), answer(model, OF_MODEL, name, numbers));
     }
 
-    private static long answer(Object object, String name, Object[] numbers) {
-        for (Method method : object.getClass().getDeclaredMethods()) {
-            if (method.getName().equals(name) && method.getParameterCount() == numbers.length
-                    && java.lang.reflect.Modifier.isPublic(method.getModifiers())) {
-                try {
-                    return ((Number) method.invoke(object, numbers)).longValue();
-                } catch (IllegalAccessException | InvocationTargetException thrown) {
-                    throw new IllegalStateException(name + " threw", thrown);
-                }
+    private static long answer(Object object, Map<String, Method> calls, String name, Object[] numbers) {
+        try {
+            return ((Number) calls.get(name).invoke(object, numbers)).longValue();
+        } catch (IllegalAccessException | InvocationTargetException thrown) {
+            throw new IllegalStateException(name + " threw", thrown);
+        }
+    }
+
+    private static Map<String, Method> callsOf(Class<?> one) {
+        Map<String, Method> calls = new HashMap<>();
+        for (Method method : one.getDeclaredMethods()) {
+            if (Modifier.isPublic(method.getModifiers())) {
+                calls.put(method.getName(), method);
             }
         }
-        throw new IllegalStateException("no call " + name);
+        return calls;
     }
 }

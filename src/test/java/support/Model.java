@@ -5,6 +5,7 @@ import java.util.List;
 import java.util.Map;
 import java.util.Set;
 import java.util.TreeSet;
+import java.util.regex.Pattern;
 
 /**
  * The document once more, by other and slower ways than the class: the order of events as a
@@ -41,6 +42,10 @@ public final class Model {
     private World kept = null;
     private StringBuilder tape = new StringBuilder();
     private final long[][] lists = new long[3][];
+    /** The cuts that hold, found for these events of so many processes. */
+    private List<Integer> held = List.of();
+    private List<Event> heldOf = null;
+    private int heldOfProcesses = 0;
 
     // ---- the run
 
@@ -239,13 +244,18 @@ public final class Model {
 
     /** The digits of all cuts that hold, rising. */
     private List<Integer> holding() {
+        if (!w.events.equals(heldOf) || w.n != heldOfProcesses) {
+            held = findHolding();
+            heldOf = List.copyOf(w.events);
+            heldOfProcesses = w.n;
+        }
+        return held;
+    }
+
+    private List<Integer> findHolding() {
         List<Integer> found = new ArrayList<>();
         int[] pasts = pasts();
-        int most = 0;
-        for (int p = 0; p < w.n; p++) {
-            most = most * 10 + eventsOf(p);
-        }
-        for (int d = 0; d <= most; d++) {
+        for (int d = 0; d <= all(); d++) {
             if (isCut(d) && isHolding(d, pasts)) found.add(d);
         }
         return found;
@@ -430,21 +440,30 @@ public final class Model {
             if (depth == 5 || closing(t, 0) != t.length() - 1) return -1;
             return either(t.substring(1, t.length() - 1), depth + 1, digits);
         }
-        String[] sums = t.split("[=<>]", -1);
-        String unit = "(x[0-" + (w.n - 1) + "]|c[0-" + (w.n - 1) + "]|m|[0-9][0-9]?)";
-        String sum = unit + "([+-]" + unit + ")*";
-        if (sums.length != 2 || !sums[0].matches(sum) || !sums[1].matches(sum)) return -1;
+        String[] sums = COMPARES.split(t, -1);
+        Pattern sum = SUMS.get(w.n - 1);
+        if (sums.length != 2 || !sum.matcher(sums[0]).matches() || !sum.matcher(sums[1]).matches()) return -1;
         int a = sum(sums[0], digits);
         int b = sum(sums[1], digits);
         char sign = t.charAt(sums[0].length());
         return sign == '=' && a == b || sign == '<' && a < b || sign == '>' && a > b ? 1 : 0;
     }
 
+    private static final Pattern COMPARES = Pattern.compile("[=<>]");
+    private static final Pattern SIGNS_AHEAD = Pattern.compile("(?=[+-])");
+    /** Sums for one process, for two, .. */
+    private static final List<Pattern> SUMS = List.of(sums(0), sums(1), sums(2), sums(3));
+
+    private static Pattern sums(int last) {
+        String unit = "(x[0-" + last + "]|c[0-" + last + "]|m|[0-9][0-9]?)";
+        return Pattern.compile(unit + "([+-]" + unit + ")*");
+    }
+
     private int sum(String t, int digits) {
         int sum = 0;
-        for (String unit : t.split("(?=[+-])")) {
+        for (String unit : SIGNS_AHEAD.split(t)) {
             int by = unit.startsWith("-") ? -1 : 1;
-            String u = unit.replaceFirst("^[+-]", "");
+            String u = unit.startsWith("-") || unit.startsWith("+") ? unit.substring(1) : unit;
             char first = u.charAt(0);
             if (first == 'x') sum += by * (digits < 0 ? 0 : valueAt(digits, u.charAt(1) - '0'));
             else if (first == 'c') sum += by * (digits < 0 ? 0 : digit(digits, u.charAt(1) - '0'));
