@@ -942,10 +942,14 @@ public final class RunCuts {
 
         boolean isMet(Run run, int row, int[] stack) {
             int top = 0;
+            int underWay = NONE; // dear to find, so once for all the times a text names it
             for (int i = 0; i < size; i++) {
                 int operation = program[i] >> 8;
+                if (operation == UNDER_WAY && underWay < 0) {
+                    underWay = Integer.bitCount(run.underWay(row));
+                }
                 if (operation <= UNDER_WAY && top < stack.length) {
-                    stack[top] = unit(run, row, operation, program[i] & 255);
+                    stack[top] = operation == UNDER_WAY ? underWay : unit(run, row, operation, program[i] & 255);
                     top++;
                 } else if (operation == OPPOSITE && top >= 1) {
                     stack[top - 1] = 1 - stack[top - 1];
@@ -963,8 +967,6 @@ public final class RunCuts {
                     return run.valueIn(row, number);
                 case EVENTS_IN:
                     return Row.at(row, run.placeOf(number));
-                case UNDER_WAY:
-                    return Integer.bitCount(run.underWay(row));
                 default:
                     return number;
             }
