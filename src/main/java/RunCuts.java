@@ -911,7 +911,10 @@ public final class RunCuts {
         }
     }
 
-    /** A condition as a program for a stack: each command an operation and, in its low byte, a number. */
+    /**
+     * A condition as a program for a stack: each command an operation and, above its bits, a
+     * number, 0 where the operation needs none.
+     */
     private static final class Condition {
         static final int NUMBER = 0;
         static final int VALUE = 1;
@@ -925,6 +928,8 @@ public final class RunCuts {
         static final int BOTH = 9;
         static final int EITHER = 10;
         static final int OPPOSITE = 11;
+        private static final int OPERATION_BITS = 15;
+        static final int NUMBER_SHIFT = 4;
 
         boolean told = false;
         int size = 0;
@@ -936,20 +941,16 @@ public final class RunCuts {
             System.arraycopy(other.program, 0, program, 0, MOST_BYTES);
         }
 
-        static int command(int operation, int number) {
-            return (operation << 8) | number;
-        }
-
         boolean isMet(Run run, int row, int[] stack) {
             int top = 0;
             int underWay = NONE; // dear to find, so once for all the times a text names it
             for (int i = 0; i < size; i++) {
-                int operation = program[i] >> 8;
+                int operation = program[i] & OPERATION_BITS;
                 if (operation == UNDER_WAY && underWay < 0) {
                     underWay = Integer.bitCount(run.underWay(row));
                 }
                 if (operation <= UNDER_WAY && top < stack.length) {
-                    stack[top] = operation == UNDER_WAY ? underWay : unit(run, row, operation, program[i] & 255);
+                    stack[top] = operation == UNDER_WAY ? underWay : unit(run, row, operation, program[i] >> NUMBER_SHIFT);
                     top++;
                 } else if (operation == OPPOSITE && top >= 1) {
                     stack[top - 1] = 1 - stack[top - 1];
@@ -1239,7 +1240,7 @@ public final class RunCuts {
         }
 
         boolean accept(int letter) {
-            if (peek() != letter) {
+            if (place >= length || bytes[place] != letter) {
                 return false;
             }
             place++;
@@ -1297,9 +1298,9 @@ public final class RunCuts {
             System.arraycopy(program, 0, condition.program, 0, MOST_BYTES);
         }
 
-        private void add(int operation, int number) {
+        private void add(int command) {
             if (size < MOST_BYTES) {
-                program[size] = Condition.command(operation, number);
+                program[size] = command;
                 size++;
             }
         }
@@ -1312,7 +1313,7 @@ public final class RunCuts {
                 if (!readAll(depth)) {
                     return false;
                 }
-                add(Condition.EITHER, 0);
+                add(Condition.EITHER);
             }
             return true;
         }
@@ -1325,7 +1326,7 @@ public final class RunCuts {
                 if (!readTest(depth)) {
                     return false;
                 }
-                add(Condition.BOTH, 0);
+                add(Condition.BOTH);
             }
             return true;
         }
@@ -1345,7 +1346,7 @@ public final class RunCuts {
             if (!readTest(depth + 1)) {
                 return false;
             }
-            add(Condition.OPPOSITE, 0);
+            add(Condition.OPPOSITE);
             return true;
         }
 
@@ -1359,7 +1360,7 @@ public final class RunCuts {
             if (operation < 0 || !readSum()) {
                 return false;
             }
-            add(operation, 0);
+            add(operation);
             return true;
         }
 
@@ -1375,7 +1376,7 @@ public final class RunCuts {
                 if (!readUnit()) {
                     return false;
                 }
-                add(operation, 0);
+                add(operation);
             }
             return true;
         }
@@ -1393,7 +1394,7 @@ public final class RunCuts {
             if (number < 0) {
                 return false;
             }
-            add(operation, number);
+            add(number << Condition.NUMBER_SHIFT | operation);
             return true;
         }
     }

@@ -8,6 +8,7 @@ import java.nio.file.Files;
 import java.nio.file.Path;
 import java.util.ArrayDeque;
 import java.util.Deque;
+import java.util.HashSet;
 import java.util.IdentityHashMap;
 import java.util.Map;
 import java.util.Set;
@@ -28,6 +29,10 @@ public final class FormTest {
         "throw", "throws", "try", "catch", "finally", "synchronized", "assert", "->", "::", "System\\.(?!arraycopy)", "Random", "Thread",
         "Math\\.\\w+Exact", "package", "protected", "volatile", "native"
     };
+    private static final Set<String> LIBRARY = Set.of("java.lang.Object.<init>", "java.lang.System.arraycopy",
+            "java.util.Arrays.fill", "java.lang.Math.min", "java.lang.Integer.bitCount");
+    private static final Set<String> READERS = Set.of("readCondition", "readAll", "readTest");
+    private static final int MOST_DEPTH = 8;
     private static final int MOST_OBJECTS = 100;
     private static final int MOST_ELEMENTS = 13000;
 
@@ -38,7 +43,8 @@ public final class FormTest {
         test.face();
         test.constants();
         test.classes();
-        test.source(Files.readString(Path.of(System.getProperty("run.cuts.source", "src/main/java/RunCuts.java"))));
+        test.source(Files.readString(Path.of(System.getProperty("run.cuts.root", "."), "src/main/java/RunCuts.java")));
+        test.bytecode();
         test.room();
         test.due.end();
     }
@@ -93,8 +99,18 @@ public final class FormTest {
             fields(one);
             for (Method method : one.getDeclaredMethods()) {
                 due.isTrue("seven parameters at most: " + method, method.getParameterCount() <= 7);
+                due.isTrue("a name of its own: " + method, !isOfFace(method.getName()));
             }
         }
+    }
+
+    private static boolean isOfFace(String name) {
+        for (String call : FACE) {
+            if (call.contains(" " + name + "(")) {
+                return true;
+            }
+        }
+        return false;
     }
 
     private void fields(Class<?> one) {
@@ -127,6 +143,46 @@ public final class FormTest {
                 due.isTrue("sixty lines at most, to line " + (i + 1), i - from <= 60 || lines[i].equals("    }"));
             }
         }
+    }
+
+    // ---- what javac made
+
+    private void bytecode() throws IOException {
+        Bytecode code = new Bytecode();
+        code.add(RunCuts.class);
+        for (Class<?> one : RunCuts.class.getDeclaredClasses()) {
+            code.add(one);
+        }
+        due.isTrue("methods were found: " + code.calls.size(), code.calls.size() > 100);
+        for (String method : code.calls.keySet()) {
+            callsOf(code, method);
+            due.under("rules 5, 6");
+            Set<Integer> used = code.instructions.get(method);
+            due.isTrue("no throw in " + method, !used.contains(Bytecode.THROW) && !code.catching.contains(method));
+            due.isTrue("no lambda, no lock, no cast in " + method, !used.contains(Bytecode.INVOKE_DYNAMIC)
+                    && !used.contains(Bytecode.ENTER_MONITOR) && !used.contains(Bytecode.CHECK_CAST));
+            due.isTrue("no static state in " + method, !used.contains(Bytecode.PUT_STATIC) && !method.contains("<clinit>"));
+        }
+    }
+
+    private void callsOf(Bytecode code, String method) {
+        due.under("rule 4");
+        for (String called : code.calls.get(method)) {
+            due.isTrue(method + " calls " + called, code.calls.containsKey(called) || LIBRARY.contains(bare(called)));
+        }
+        due.under("rule 8");
+        boolean recursive = code.reachedFrom(method).contains(method);
+        due.isTrue("recursion only by readers of conditions: " + method, recursive == READERS.contains(simple(method)));
+        due.under("rule 11");
+        due.isTrue("calls at most eight deep: " + method, code.depthFrom(method, new HashSet<>()) <= MOST_DEPTH);
+    }
+
+    private static String bare(String method) {
+        return method.substring(0, method.indexOf('('));
+    }
+
+    private static String simple(String method) {
+        return bare(method).substring(bare(method).lastIndexOf('.') + 1);
     }
 
     // ---- the room: all objects that hang on one object

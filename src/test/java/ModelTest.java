@@ -6,6 +6,8 @@ import java.util.Deque;
 import java.util.HashMap;
 import java.util.Map;
 import java.util.Random;
+import java.util.concurrent.atomic.AtomicInteger;
+import java.util.stream.IntStream;
 
 /** Runs of chosen calls, each answered by the class and by the model; the seeds are fixed. */
 public final class ModelTest {
@@ -24,25 +26,30 @@ public final class ModelTest {
     private static final Map<String, Method> OF_MODEL = callsOf(Model.class);
 
     private final Due due = new Due();
+    private final long seed;
     private final Random random;
     private final RunCuts cuts = new RunCuts();
     private final Model model = new Model();
     private final Deque<String> told = new ArrayDeque<>();
 
     private ModelTest(long seed) {
+        this.seed = seed;
         random = new Random(seed);
         due.under("seed " + seed);
     }
 
+    /** Runs know nothing of one another, so all of the machine's cores take their part. */
     public static void main(String[] args) {
-        int wrong = 0;
-        for (int seed = 0; seed < RUNS && wrong < 5; seed++) {
-            ModelTest test = new ModelTest(seed);
-            test.runCalls();
-            wrong += test.due.wrong();
-        }
-        System.out.println(wrong == 0 ? RUNS + " runs are as the model's" : "the model answers otherwise");
-        if (wrong != 0) {
+        AtomicInteger wrong = new AtomicInteger();
+        IntStream.range(0, RUNS).parallel().forEach(seed -> {
+            if (wrong.get() < 5) {
+                ModelTest test = new ModelTest(seed);
+                test.runCalls();
+                wrong.addAndGet(test.due.wrong());
+            }
+        });
+        System.out.println(wrong.get() == 0 ? RUNS + " runs are as the model's" : "the model answers otherwise");
+        if (wrong.get() != 0) {
             System.exit(1);
         }
     }
@@ -69,7 +76,7 @@ public final class ModelTest {
             }
         }
         if (due.wrong() > 0) {
-            System.out.println("  behind " + told);
+            System.out.println("seed " + seed + ": that was behind " + told);
         }
     }
 
