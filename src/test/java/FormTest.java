@@ -193,15 +193,25 @@ public final class FormTest {
         long[] fresh = sizeOf(x);
         due.isTrue("objects: " + fresh[0], fresh[0] <= MOST_OBJECTS);
         due.isTrue("fields and elements: " + fresh[1], fresh[1] <= MOST_ELEMENTS);
-        useMuch(new RunCuts()); // what the machine makes at first use is not the class's
-        allocated();
-        long before = allocated();
+        due.is("bytes that the calls make", leastMade(), 0);
         useMuch(x);
-        long made = allocated() - before;
-        due.isTrue("the calls make hardly anything: " + made, made < 1024);
         long[] used = sizeOf(x);
         due.is("objects behind many calls", used[0], fresh[0]);
         due.is("elements behind many calls", used[1], fresh[1]);
+    }
+
+    /** The least of several rounds: what the machine makes at first use is not the class's. */
+    private static long leastMade() {
+        long least = Long.MAX_VALUE;
+        for (int round = 0; round < 5; round++) {
+            RunCuts x = new RunCuts();
+            long first = allocated();
+            long before = allocated();
+            useMuch(x);
+            long asking = before - first;
+            least = Math.min(least, allocated() - before - asking);
+        }
+        return least;
     }
 
     private static long allocated() {
@@ -223,6 +233,7 @@ public final class FormTest {
             x.ways(i);
             x.line();
             x.film(i % 3, 0);
+            x.judge(i % 3, 0);
             x.image();
             x.undo();
         }
